@@ -144,10 +144,10 @@ public final class NinetyNine {
         if (what == 2) {
             return now().guessesOff(0);
         }
-        int least = now().guessesOff(1);
         int by = 1;
+        int least = now().guessesOff(by);
         for (int w = 2; w <= 60; w++) {
-            int sum = now().guessesOff(w);
+            int sum = bar.guessesOff(w);
             if (sum < least) {
                 least = sum;
                 by = w;
@@ -325,8 +325,9 @@ public final class NinetyNine {
         if (!seen.isBytes()) {
             return seen.noBytes();
         }
+        Bar shown = now();
         for (int t = 0; t <= LAST_SECOND; t++) {
-            if (now().firstUnlike(seen, t) == NOT) {
+            if (shown.firstUnlike(seen, t) == NOT) {
                 return t;
             }
         }
@@ -680,7 +681,7 @@ public final class NinetyNine {
                 smooth = v;
             } else if (what == NEVER) {
                 never = v;
-            } else if (!lacks(number)) {
+            } else {
                 setOfPiece(number, what, v);
             }
         }
@@ -1024,7 +1025,7 @@ public final class NinetyNine {
         private int count;
 
         int pieceAt(int k) {
-            return k >= 0 && k < count ? row[k] : 0;
+            return k >= 0 && k < count && k < PIECES ? row[k] : 0;
         }
 
         void empty() {
@@ -1033,7 +1034,7 @@ public final class NinetyNine {
 
         void copy(Order other) {
             count = other.count;
-            for (int k = 0; k < count; k++) {
+            for (int k = 0; k < count && k < PIECES; k++) {
                 row[k] = other.row[k];
             }
         }
@@ -1046,7 +1047,7 @@ public final class NinetyNine {
         }
 
         private boolean has(int piece) {
-            for (int k = 0; k < count; k++) {
+            for (int k = 0; k < count && k < PIECES; k++) {
                 if (row[k] == piece) {
                     return true;
                 }
@@ -1076,25 +1077,29 @@ public final class NinetyNine {
 
         /** The order that follows by numbers; false if this was the last. */
         boolean toNext() {
-            int turn = count - 2;
+            int last = Math.min(count, PIECES) - 1;
+            int turn = last - 1;
             while (turn >= 0 && row[turn] > row[turn + 1]) {
                 turn--;
             }
             if (turn < 0) {
                 return false;
             }
-            int behind = count - 1;
+            int behind = last;
             while (behind > turn && row[behind] < row[turn]) {
                 behind--;
             }
             swap(turn, behind);
-            for (int low = turn + 1, high = count - 1; low < high; low++, high--) {
+            for (int low = turn + 1, high = last; low < high; low++, high--) {
                 swap(low, high);
             }
             return true;
         }
 
         private void swap(int a, int b) {
+            if (a < 0 || a >= PIECES || b < 0 || b >= PIECES) {
+                return;
+            }
             int piece = row[a];
             row[a] = row[b];
             row[b] = piece;

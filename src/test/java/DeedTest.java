@@ -223,6 +223,37 @@ public final class DeedTest {
         }
         c.due("one more is gone", x.of(0, 0), 7);
         c.due("the latest is undone", x.of(0, 1), 1);
+        changesOfMany();
+    }
+
+    /** Of 48 changes of all numbers in turn the first eight are gone. */
+    private static void changesOfMany() {
+        NinetyNine x = new NinetyNine();
+        for (int piece = 0; piece < 6; piece++) {
+            x.piece(1, 1);
+        }
+        int[] number = new int[48];
+        int[] what = new int[48];
+        int[] was = new int[48];
+        int[] is = new int[48];
+        for (int i = 0; i < 48; i++) {
+            what[i] = i % 7;
+            number[i] = what[i] < 4 ? i % 6 : 0;
+            was[i] = x.of(number[i], what[i]);
+            is[i] = what[i] == 6 ? 1 - was[i] : what[i] == 4 ? (was[i] + 2) % 5 : was[i] + 1;
+            c.due("change " + i, x.mend(number[i], what[i], is[i]), was[i]);
+        }
+        for (int i = 47; i >= 8; i--) {
+            c.due("undo of change " + i, x.undo(), i - 8);
+            c.due("undone: change " + i, x.of(number[i], what[i]), was[i]);
+        }
+        c.due("undo of change 7", x.undo(), -5);
+        c.due("change 7 stands", x.of(number[7], what[7]), is[7]);
+        for (int i = 8; i < 48; i++) {
+            c.due("redo of change " + i, x.redo(), 47 - i);
+            c.due("done again: change " + i, x.of(number[i], what[i]), is[i]);
+        }
+        c.due("redo of none", x.redo(), -5);
     }
 
     private static void redo() {

@@ -64,6 +64,12 @@ public final class SeenTest {
         c.due("up to the last second", x.judge(2, 997), -2);
         c.due("beyond the last second", x.judge(2, 998), 2);
         c.due("far beyond", x.judge(2, 999), 1);
+        Checks.law(x, "0");
+        x.mend(0, 4, 4);
+        Checks.row(x, 3, 0, 0, 0);
+        c.due("0 up to the last second", x.judge(3, 997), -2);
+        c.due("0 is not so beyond it, either", x.judge(3, 998), 2);
+        x.undo();
         Checks.row(x, 3, 0, -1);
         c.due("below 0", x.judge(3, 0), 1);
         Checks.row(x, 3, 0, 256 + 16);
@@ -118,12 +124,21 @@ public final class SeenTest {
         Checks.row(x, 1, 98, 99, 98, 99);
         c.due("up and down", x.since(1), 97);
         NinetyNine late = new NinetyNine();
-        late.piece(1, 1);
+        for (int piece = 0; piece < 6; piece++) {
+            late.piece(99, 1);
+            late.mend(piece, 2, 60);
+        }
         late.mend(0, 4, 4);
-        Checks.law(late, "100*0");
-        Checks.row(late, 0, 1);
-        c.due("not up to 999", late.since(0), -2);
-        // SMOOTH brings it one step a second on; the law goes back each hundredth.
+        Checks.law(late, "t<100?0;l+2");
+        // LONG is 954: 2 there, 92 in the last second.
+        Checks.row(late, 0, 92);
+        c.due("in the last second", late.since(0), 999);
+        Checks.row(late, 0, 93);
+        c.due("not up to the last second", late.since(0), -2);
+        Checks.row(late, 0, 90, 92);
+        c.due("up to the last second", late.since(0), 998);
+        Checks.row(late, 0, 92, 94);
+        c.due("not beyond the last second", late.since(0), -2);
         x.mend(0, 4, 1);
         Checks.row(x, 2, 93, 100, 100);
         c.due("over the end", x.since(2), 14);

@@ -222,6 +222,7 @@ public final class ShowingTest {
         c.due("by the whole", x.best(2), 7);
         c.due("its sum", x.best(1), 7);
         c.due("by the fifth", x.best(0), 5);
+        bestByTheLast();
         NinetyNine late = new NinetyNine();
         late.piece(1, 1);
         late.piece(99, 9);
@@ -229,6 +230,29 @@ public final class ShowingTest {
         // 50 seconds of nothing, second 51 would take 51 times 99: 999 each.
         c.that("999 at most", late.best(2) < 62 * 999 && late.best(2) >= 51 * 999);
         c.due("999 at most each", late.remains(51, 0), 51 * 99);
+    }
+
+    /** A stand of 59 seconds is best looked over by 60 and more: 60 is the most, and of like ones the least counts. */
+    private static void bestByTheLast() {
+        NinetyNine x = new NinetyNine();
+        x.piece(99, 9);
+        x.piece(9, 1);
+        x.mend(1, 2, 58);
+        int[] sum = new int[61];
+        for (int w = 0; w <= 60; w++) {
+            for (int t = 1; t <= x.of(0, 8); t++) {
+                int guess = x.remains(t, w);
+                sum[w] += guess == -2 ? 999 : Math.min(999, Math.abs(guess - x.remains(t, -1)));
+            }
+        }
+        int best = 1;
+        for (int w = 2; w <= 60; w++) {
+            best = sum[w] < sum[best] ? w : best;
+        }
+        c.due("59 stuck: by", x.best(0), best);
+        c.due("59 stuck: by the most", best, 60);
+        c.due("59 stuck: its sum", x.best(1), sum[60]);
+        c.due("59 stuck: by the whole", x.best(2), sum[0]);
     }
 
     private static void dead() {
