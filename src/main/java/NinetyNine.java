@@ -619,7 +619,8 @@ public final class NinetyNine {
 
     private int leastToShow(int piece, int what, Shelf seen, int t) {
         trial.work.copy(bar.work);
-        for (int v = Work.least(what); Work.allows(what, v); v++) {
+        int most = Work.most(what);
+        for (int v = Work.least(what); v <= most; v++) {
             trial.work.set(piece, what, v);
             if (trialShows(seen, t)) {
                 return v;
@@ -643,11 +644,15 @@ public final class NinetyNine {
         private final int[] files = new int[PIECES];
 
         static boolean allows(int what, int v) {
-            return what >= 0 && what < MOST.length && v >= LEAST[what] && v <= MOST[what];
+            return v >= least(what) && v <= most(what);
         }
 
         static int least(int what) {
             return what >= 0 && what < LEAST.length ? LEAST[what] : 0;
+        }
+
+        static int most(int what) {
+            return what >= 0 && what < MOST.length ? MOST[what] : -1;
         }
 
         private boolean lacks(int piece) {
