@@ -49,7 +49,7 @@ public final class NinetyNine {
 
     public int pieces(int shelf, int i, int n) {
         Shelf from = shelfAt(shelf);
-        if (from == null || i < 0 || n < 1 || n > PIECES) {
+        if (from == null || n < 1 || n > PIECES) {
             return BAD;
         }
         if (from.holds == Shelf.NOTHING) {

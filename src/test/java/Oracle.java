@@ -66,14 +66,14 @@ final class Oracle {
     }
 
     int pieces(int shelf, int i, int n) {
-        if (shelf < 0 || shelf > 5 || i < 0 || n < 1 || n > 6) return -1;
+        if (shelf < 0 || shelf > 5 || n < 1 || n > 6) return -1;
         if (shelves[shelf] == null) return 0;
         if (noBytes(shelf) != 0) return -12;
         long[] row = (long[]) shelves[shelf];
         int came = 0;
         for (; came < n; came++) {
             long at = i + 1L + 3L * came;
-            if (at + 2 >= row.length || told.pieces.size() == 6) break;
+            if (at < 1 || at + 2 >= row.length || told.pieces.size() == 6) break;
             int b = (int) row[(int) at];
             int s = (int) row[(int) at + 1];
             int w = (int) row[(int) at + 2];

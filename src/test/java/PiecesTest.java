@@ -75,11 +75,16 @@ public final class PiecesTest {
         c.due("pieces(6, 0, 1)", x.pieces(6, 0, 1), -1);
         c.due("pieces(0, 0, 0)", x.pieces(0, 0, 0), -1);
         c.due("pieces(0, 0, 7)", x.pieces(0, 0, 7), -1);
-        c.due("pieces(0, -1, 1)", x.pieces(0, -1, 1), -1);
         c.due("the row is missing", x.pieces(0, 0, 6), 0);
+        c.due("so all its places are", x.pieces(0, -1, 1), 0);
         Checks.row(x, 1, 9, 30, 4, 5, 80, 9, 60, 12, 1);
         c.due("no place so far out", x.pieces(1, 9, 1), 0);
         c.due("nor there", x.pieces(1, Integer.MAX_VALUE, 6), 0);
+        c.due("nor below 0", x.pieces(1, -1, 1), 0);
+        c.due("nor a three below 0", x.pieces(1, -2, 6), 0);
+        c.due("nor far below", x.pieces(1, Integer.MIN_VALUE, 6), 0);
+        c.due("of them none came", x.count(0), 0);
+        c.due("BAD is named ahead", x.pieces(1, -1, 0), -1);
         c.due("a three that ends", x.pieces(1, 7, 1), 0);
         c.due("from place 1", x.pieces(1, 1, 3), 2);
         c.due("bytes of the first", x.of(0, 0), 30);
@@ -102,6 +107,7 @@ public final class PiecesTest {
         c.due("full already", x.pieces(2, 0, 4), 0);
         c.due("a row of shorts is made", x.row(3, 1, 6), 1);
         c.due("a row of shorts", x.pieces(3, 0, 1), -12);
+        c.due("a row of shorts, from below 0", x.pieces(3, -1, 1), -12);
         x.keep(3, x.body(0));
         c.due("a step", x.pieces(3, 0, 1), -12);
         x.row(3, 0, 0);
