@@ -84,6 +84,12 @@ final class EdgesOfDeeds {
         s.due("its own, it is not", slow.dead(1, 0), -2);
         slow.mend(0, 4, 2);
         s.due("by the MEASURE as it is", slow.drawn(3, 1, 1, 1), 1);
+        NinetyNine always = bar(new int[][] {{1, 9, 7}});
+        always.mend(0, 3, 0);
+        always.mend(0, 4, 0);
+        // Whichever the SPEED, LONG is 8; all seconds show 100, 0 among them.
+        s.due("DEAD in the second ahead of LONG", always.drawn(5, 30, 7, 1), 30);
+        s.due("not in LONG", always.drawn(5, 30, 8, 1), 0);
         s.due("no PIECES: seconds", new NinetyNine().drawn(7, 30, 1, 0), 0);
         s.due("no PIECES: DEAD ones", new NinetyNine().drawn(7, 30, 1, 1), 0);
         s.says("`int drawn(int seed, int n, int d, int what)`: DRAWN: seconds (what 0), DEAD ones (1). BAD.");
@@ -254,6 +260,7 @@ final class EdgesOfDeeds {
             s.due("the latest first: " + what, x.of(0, what), was[what]);
             s.due("not the one ahead", what == 0 || x.of(0, what - 1) == is[what - 1] ? 1 : 0, 1);
         }
+        s.due("SHOWN by what is UNDONE", x.showing(1, 4), 50);
         s.due("none", x.undo(), -5);
         for (int what = 0; what <= 6; what++) {
             s.due("DONE AGAIN: how many may still be", x.redo(), 6 - what);
@@ -261,6 +268,8 @@ final class EdgesOfDeeds {
             s.due("may be UNDONE", x.count(2), what + 1);
         }
         s.due("none", x.redo(), -5);
+        s.due("SHOWN by what is DONE AGAIN", x.showing(9, 4), 36);
+        s.due("TIME by what is DONE AGAIN", x.showing(9, 3), 81);
         x.undo();
         x.undo();
         x.mend(0, 0, 20);
@@ -310,6 +319,7 @@ final class EdgesOfDeeds {
             s.due(told + " were told: the latest is DONE AGAIN", x.of(0, 0), told + 1);
             s.due(told + " were told: no more to do again", x.redo(), -5);
         }
+        fortyOfMany();
         NinetyNine x = Checks.fifteen();
         x.undo();
         x.begin();
@@ -330,6 +340,37 @@ final class EdgesOfDeeds {
         s.due("they are no others that came behind", x.redo(), 0);
         s.due("what is DONE AGAIN", x.of(1, 2), 3);
         s.due("the PIECES stay", x.count(0), 4);
+    }
+
+    /** Of 45 changes of unlike numbers the earliest five are gone. */
+    private void fortyOfMany() {
+        NinetyNine x = new NinetyNine();
+        x.piece(1, 1);
+        x.piece(1, 1);
+        for (int i = 1; i <= 9; i++) {
+            x.mend(0, 0, i + 1);
+            x.mend(1, 2, i);
+            x.mend(0, 5, i);
+            x.mend(1, 3, i % 2 * 7);
+            x.mend(0, 6, i % 2);
+        }
+        int[] told = {10, 1, 9, 7, 1};
+        int[] earliest = {2, 1, 1, 7, 1};
+        for (int i = 0; i < 40; i++) {
+            x.undo();
+        }
+        s.due("no more", x.undo(), -5);
+        for (int round = 0; round <= 1; round++) {
+            int[] due = round == 0 ? earliest : told;
+            s.due("BYTES of 0, round " + round, x.of(0, 0), due[0]);
+            s.due("STUCK of 1, round " + round, x.of(1, 2), round == 0 ? 1 : 9);
+            s.due("SMOOTH, round " + round, x.of(0, 5), due[2]);
+            s.due("FILES of 1, round " + round, x.of(1, 3), due[3]);
+            s.due("NEVER, round " + round, x.of(0, 6), due[4]);
+            for (int i = 0; i < 41; i++) {
+                x.redo();
+            }
+        }
     }
 
     private void image() {

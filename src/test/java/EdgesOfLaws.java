@@ -92,6 +92,8 @@ final class EdgesOfLaws {
         s.due("is not on it", x.law(), 1);
         s.due("all 120 are", x.showing(0, 4), 69);
         s.due("120 may come again", x.feed('1'), 1);
+        // Each of these bytes is worked out by itself; none is part of a number, or a bracket.
+        shows("!b" + "+b".repeat(59), 1);
     }
 
     private void lines() {

@@ -245,6 +245,11 @@ final class EdgesOfOrders {
         steps.mend(0, 3, 2);
         s.due("STEPS are as near as TIME", steps.measure(0), 2);
         s.due("TIME is nearest", Checks.fifteen().measure(0), 3);
+        NinetyNine late = bar(new int[][] {{19, 1, 0}}, 2);
+        late.mend(0, 3, 0);
+        late.mend(0, 5, 5);
+        // By SMOOTH 5 FILES, 100 from the first on, are 5 off at most and BYTES, too; the sum is less by BYTES.
+        s.due("by the sum, not by the greatest", late.measure(0), 1);
         // No FILES: 100 from the first on, and by SMOOTH 9 they show 9, 18, .., 99 in second 10.
         NinetyNine ten = bar(new int[][] {{10, 1, 0}}, 2);
         ten.mend(0, 3, 0);
@@ -339,6 +344,7 @@ final class EdgesOfOrders {
                 }
             }
         }
+        s.due("by the greatest, 20, not by the sum, 50", Checks.fifteen().trust(3, 0), 50);
         s.due("cut: 19 by 2 is 9", offBy(19).trust(1, 0), 51);
         s.due("cut: 20 by 2 is 10", offBy(20).trust(1, 0), 50);
         s.due("held within 100", offBy(0).trust(6, 0), 100);

@@ -226,6 +226,12 @@ final class EdgesOfShowings {
         x.piece(20, 1);
         guesses("w 1 is best alone", x, 1);
         x = new NinetyNine();
+        x.piece(4, 2);
+        x.piece(7, 3);
+        x.mend(0, 2, 3);
+        x.mend(1, 2, 1);
+        guesses("w 2 is best alone", x, 2);
+        x = new NinetyNine();
         x.piece(99, 9);
         x.piece(9, 1);
         x.mend(1, 2, 58);
