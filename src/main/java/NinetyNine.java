@@ -1280,7 +1280,7 @@ public final class NinetyNine {
             size = Math.min(tape.size, Tape.MOST_CODE);
             for (int i = 0; i < size; i++) {
                 code[i] = tape.codeAt(i);
-                looksBack |= code[i] == Tape.SIGN + 'l';
+                looksBack = looksBack || code[i] == Tape.SIGN + 'l';
             }
         }
 

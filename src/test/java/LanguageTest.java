@@ -318,7 +318,17 @@ public final class LanguageTest {
         public Void visitBinary(BinaryTree tree, Void nothing) {
             TypeMirror type = trees.getTypeMirror(getCurrentPath());
             c.that(at(tree) + "joined by an operator that gives " + type, type.getKind().isPrimitive());
+            boolean bits = EnumSet.of(Tree.Kind.AND, Tree.Kind.OR, Tree.Kind.XOR).contains(tree.getKind());
+            c.that(at(tree) + "booleans joined as if they were numbers", !bits || type.getKind() != TypeKind.BOOLEAN);
             return super.visitBinary(tree, nothing);
+        }
+
+        @Override
+        public Void visitCompoundAssignment(CompoundAssignmentTree tree, Void nothing) {
+            // Rule 10 lists && and || for booleans, and no other way to join them.
+            c.that(at(tree) + "booleans joined as if they were numbers",
+                trees.getTypeMirror(getCurrentPath()).getKind() != TypeKind.BOOLEAN);
+            return super.visitCompoundAssignment(tree, nothing);
         }
 
         @Override
